@@ -1178,13 +1178,20 @@ public final class ShapeFrames {
             boolean more = !hasFailed();
             // A round that finds no letter is the last, so there are no more rounds than letters and one.
             for (int round = 0; round <= LETTERS && more; round++) {
-                more = false;
+                boolean passedBy = false;
+                boolean oneFound = false;
                 for (int node = 0; node < nodes.size() && !hasFailed(); node++) {
-                    if (gatherSides(node) && settleOne(node)) {
-                        more = true;
+                    if (!gatherSides(node)) {
+                        continue;
+                    }
+                    if (sides.letters() > 1) {
+                        passedBy = true;
+                    } else if (settleOne(node)) {
+                        oneFound = true;
                     }
                 }
-                more = more && !hasFailed();
+                // What holds goes on to hold, so another round is only for those that were passed by.
+                more = oneFound && passedBy && !hasFailed();
             }
         }
 
@@ -1219,11 +1226,8 @@ public final class ShapeFrames {
             return frame < nodes.axesOf(node) ? valueOf(nodes.at(node, frame)) : 1;
         }
 
-        /** Whether one letter more became a number, by the sides that are gathered. */
+        /** Whether the one letter became a number, by the sides that are gathered; they have no second one. */
         private boolean settleOne(int node) {
-            if (sides.letters() > 1) {
-                return false;
-            }
             boolean isSum = nodes.kindOf(node) == JOIN;
             long missing = isSum ? sides.missingAddend() : sides.missingFactor();
             if (missing == Sides.BY_NONE) {

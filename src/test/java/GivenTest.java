@@ -108,6 +108,16 @@ public final class GivenTest {
         }
         check.due("undo() of more than eight", x.undo(), NOT);
         check.due("letter(0)", x.letter(0), 2);
+        // The same with letters that take turns.
+        x = new ShapeFrames();
+        for (int i = 0; i < 11; i++) {
+            x.give(i % 3, i % 10);
+        }
+        for (int i = 10; i > 2; i--) {
+            check.due("undo()", x.undo(), i - 3);
+            check.due("letter(" + i % 3 + ")", x.letter(i % 3), i - 3);
+        }
+        check.due("undo() of more than eight", x.undo(), NOT);
     }
 
     private static void promise12Keep() {

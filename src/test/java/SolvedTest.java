@@ -51,6 +51,15 @@ public final class SolvedTest {
         for (int letter = 1; letter <= 3; letter++) {
             check.due("letter(" + letter + ")", x.letter(letter), 6);
         }
+        x = check.told("shape v;shape u;each 0 1 0;shape 6;each 1 3 0");
+        check.due("letter(0)", x.letter(0), 6);
+        check.due("letter(1)", x.letter(1), 6);
+        x = check.told("shape w;ravel 0 0;shape u v;each 2 1 0;shape x 1;each 4 2 0");
+        check.due("letter(0)", x.letter(0), 20000);
+        check.due("letter(2)", x.letter(2), 20000);
+        check.due("letter(3)", x.letter(3), 20000);
+        check.due("letter(5)", x.letter(5), 1);
+        check.due("letter(1)", x.letter(1), 1);
         x = check.told("shape u v;shape w x;each 0 1 0;shape v u;each 3 1 0");
         for (int letter = 0; letter < 4; letter++) {
             check.due("letter(" + letter + ")", x.letter(letter), 20000);
@@ -194,8 +203,9 @@ public final class SolvedTest {
         check.fails(x);
         check.due("extent(8, 0)", x.extent(8, 0), 9999);
         check.due("letter(12)", x.letter(12), 9999);
-        check.tell(x, "join 8 8 0");
-        check.shape(x, 9, 9999, 2);
+        check.tell(x, "form 8 x");
+        check.fails(x);
+        check.due("letter(3)", x.letter(3), 9999);
         x = check.told("shape 5 5 5;form 0 w;shape w 8 5;ravel 2 3;join 3 3 1");
         check.fails(x, 4, 3, 0, 0, 0);
         check.due("extent(3, 0)", x.extent(3, 0), 5000);
@@ -338,6 +348,9 @@ public final class SolvedTest {
         ways(x, 55, 0, 0, 0, NOT);
         x = check.told("shape u u;form 0 x");
         ways(x, 4, 0, NOT, NOT, 0);
+        // Whichever is asked first.
+        check.due("way(1)", check.told("shape u v;form 0 8").way(1), 8);
+        check.due("odds(1)", check.told("shape u v;form 0 8").odds(1), 25);
         // Twice in a sum: not found, but by the ways.
         x = check.told("shape u;join 0 0 1;shape 8;each 1 2 0");
         ways(x, 1, 4, NOT, NOT, NOT);
@@ -393,6 +406,8 @@ public final class SolvedTest {
         check.due("mend() of nothing", new ShapeFrames().mend(), NONE);
         check.due("mend(), nothing failing", check.told("shape 3;shape 3;each 0 1 0").mend(), NONE);
         check.due("mend()", check.told("shape 3;shape 4;each 0 1 0").mend(), 4);
+        check.due("mend()", check.told("shape 3;shape 9;each 0 1 0").mend(), 9);
+        check.due("mend()", check.told("shape 3;shape 0;each 0 1 0").mend(), 0);
         check.due("mend()", check.told("shape u u;shape 3 4;each 0 1 1").mend(), 3);
         check.due("mend()", check.told("shape 2 3;shape 2 4;each 0 1 0;fold 2 1;shape 2;each 3 4 0").mend(), 14);
         // By an axis of a later node, through the verbs that hold its extents.

@@ -87,6 +87,8 @@ public final class ToldTest {
         check.fault("", "shape ; ; shape", 8);
         check.fault("", "shapes", 0);
         check.fault("", "shap", 0);
+        check.fault("", "shapez", 0);
+        check.fault("", "ashape", 0);
         check.fault("", "Shape", 0);
         check.fault("", "sHape", 0);
         check.fault("", " 3", 1);
@@ -228,6 +230,14 @@ public final class ToldTest {
         check.tell(x, "program");
         check.due("count(0) behind a program clause alone", x.count(0), 0);
         check.due("node(0, 0) behind a program clause alone", x.node(0, 0), UNKNOWN);
+        // Asking for the fault again and again does nothing.
+        Check.write(x, "shape;shape;shape;shape;turn 3 0;turn 4 0");
+        for (int i = 0; i < 3; i++) {
+            check.due("fault() again", x.fault(), NONE);
+        }
+        check.due("program() behind fault()", x.program(), 6);
+        check.due("count(0)", x.count(0), 6);
+        check.tell(x, "program");
         // What a refused text had already read leaves nothing behind.
         check.tell(x, "shape 5");
         Check.write(x, "program;shape 6 6;shape zz");
