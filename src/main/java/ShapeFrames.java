@@ -788,6 +788,11 @@ public final class ShapeFrames {
             return extents[node * MOST_AXES + axis];
         }
 
+        /** The first extent of a cell behind so many axes; a cell without extents counts as one of the extent 1. */
+        int joinedAt(int node, int frame) {
+            return frame < axes[node] ? extents[node * MOST_AXES + frame] : 1;
+        }
+
         boolean isTold(int node) {
             return kind[node] == SHAPE || kind[node] == FORM;
         }
@@ -942,7 +947,6 @@ public final class ShapeFrames {
 
         private final long[] sums = new long[2];
         private final long[] products = new long[2];
-        private final boolean[] noughts = new boolean[2];
         private int letters;
         private int letter;
         private int letterSide;
@@ -952,7 +956,6 @@ public final class ShapeFrames {
             for (int side = 0; side < 2; side++) {
                 sums[side] = 0;
                 products[side] = 1;
-                noughts[side] = false;
             }
             letters = 0;
             letter = 0;
@@ -969,8 +972,9 @@ public final class ShapeFrames {
                 return;
             }
             sums[side] += value;
+            // Once too great, only a nought can change that; so it needs no greater numbers than these.
             if (value == 0) {
-                noughts[side] = true;
+                products[side] = 0;
             } else if (products[side] <= MOST_PRODUCT) {
                 products[side] *= value;
             }
@@ -990,7 +994,7 @@ public final class ShapeFrames {
         }
 
         boolean isTooGreat() {
-            return product(0) > MOST_PRODUCT || product(1) > MOST_PRODUCT;
+            return products[0] > MOST_PRODUCT || products[1] > MOST_PRODUCT;
         }
 
         long missingAddend() {
@@ -1002,8 +1006,8 @@ public final class ShapeFrames {
         }
 
         long missingFactor() {
-            long goal = product(1 - letterSide);
-            long rest = product(letterSide);
+            long goal = products[1 - letterSide];
+            long rest = products[letterSide];
             if (goal > MOST_PRODUCT || rest > MOST_PRODUCT) {
                 return BY_NONE;
             }
@@ -1011,10 +1015,6 @@ public final class ShapeFrames {
                 return goal == rest ? BY_ANY : BY_NONE;
             }
             return goal % rest != 0 || goal / rest > MOST_EXTENT ? BY_NONE : goal / rest;
-        }
-
-        private long product(int side) {
-            return noughts[side] ? 0 : products[side];
         }
     }
 
@@ -1206,9 +1206,9 @@ public final class ShapeFrames {
             sides.clear();
             if (kind == JOIN) {
                 sides.add(0, valueOf(Nodes.ownLetter(node)));
-                sides.add(1, firstOfCell(m, nodes.frameOf(m, rank)));
                 int n = nodes.secondOf(node);
-                sides.add(1, firstOfCell(n, nodes.frameOf(n, rank)));
+                sides.add(1, valueOf(nodes.joinedAt(m, nodes.frameOf(m, rank))));
+                sides.add(1, valueOf(nodes.joinedAt(n, nodes.frameOf(n, rank))));
                 return true;
             }
             // A ravel keeps its frame and has one letter behind it, for all that is behind it in the argument.
@@ -1220,10 +1220,6 @@ public final class ShapeFrames {
                 sides.add(1, valueOf(nodes.at(m, axis)));
             }
             return true;
-        }
-
-        private int firstOfCell(int node, int frame) {
-            return frame < nodes.axesOf(node) ? valueOf(nodes.at(node, frame)) : 1;
         }
 
         /** Whether the one letter became a number, by the sides that are gathered; they have no second one. */
@@ -1299,7 +1295,8 @@ public final class ShapeFrames {
          */
         private int waysFrom(int letter, int ahead) {
             if (letter >= PLAIN) {
-                return waysAsChosen(ahead);
+                solver.settleWith(chosen);
+                return waysAsSettled(ahead);
             }
             if (!isOpen(letter)) {
                 return waysFrom(letter + 1, ahead);
@@ -1326,8 +1323,7 @@ public final class ShapeFrames {
             return here;
         }
 
-        private int waysAsChosen(int ahead) {
-            solver.settleWith(chosen);
+        private int waysAsSettled(int ahead) {
             if (solver.hasFailed()) {
                 return 0;
             }

@@ -1,15 +1,23 @@
 import java.io.IOException;
+import java.io.PrintWriter;
+import java.io.StringWriter;
 import java.lang.reflect.Constructor;
 import java.lang.reflect.Field;
 import java.lang.reflect.Method;
 import java.lang.reflect.Modifier;
 import java.nio.file.Files;
 import java.nio.file.Path;
+import java.util.ArrayList;
 import java.util.List;
+import java.util.Map;
+import java.util.Optional;
 import java.util.Set;
+import java.util.TreeMap;
 import java.util.TreeSet;
 import java.util.regex.Matcher;
 import java.util.regex.Pattern;
+import java.util.spi.ToolProvider;
+import java.util.stream.Stream;
 
 /** The rules of LANGUAGE.md that can be seen in the source or by reflection; it is run in the project's folder. */
 public final class LanguageTest {
@@ -30,6 +38,7 @@ public final class LanguageTest {
         rule4Library(lines);
         rule6Words(lines);
         rule11Methods(lines);
+        rule11Depth();
         rule12ObjectsAreMadeOnce(lines);
         check.end();
     }
@@ -134,6 +143,68 @@ public final class LanguageTest {
             check.due(matcher.group(6) + " takes seven at most: " + parameters, parameters <= 7 ? 1 : 0, 1);
         }
         check.due("methods that were looked at: " + found, found > 100 ? 1 : 0, 1);
+    }
+
+    /** By the compiled classes: which of their methods calls which; a call of itself is no deeper one. */
+    private static Map<String, Set<String>> callsOfMethods(ToolProvider javap) throws IOException {
+        String classes = ShapeFrames.class.getProtectionDomain().getCodeSource().getLocation().getPath();
+        List<String> arguments = new ArrayList<>(List.of("-c", "-p"));
+        try (Stream<Path> files = Files.list(Path.of(classes))) {
+            files.filter(file -> file.getFileName().toString().matches("ShapeFrames(\\$.*)?\\.class"))
+                .forEach(file -> arguments.add(file.toString()));
+        }
+        StringWriter told = new StringWriter();
+        PrintWriter out = new PrintWriter(told);
+        javap.run(out, out, arguments.toArray(new String[0]));
+        Pattern call = Pattern.compile("// Method (?:(ShapeFrames[\\w$]*)\\.)?\"?(<init>|\\w+)\"?:");
+        Map<String, Set<String>> calls = new TreeMap<>();
+        String owner = "";
+        String method = "";
+        for (String line : told.toString().split("\n")) {
+            Matcher start = Pattern.compile("^(?:\\w+ )*class (\\S+) \\{").matcher(line);
+            Matcher body = Pattern.compile("^  (?:\\S+ )*([\\w$]+)\\(.*\\);$").matcher(line);
+            Matcher called = call.matcher(line);
+            if (start.find()) {
+                owner = start.group(1);
+            } else if (body.matches()) {
+                method = owner + "." + (body.group(1).equals(owner) ? "<init>" : body.group(1));
+                calls.put(method, new TreeSet<>());
+            } else if (called.find()) {
+                String to = (called.group(1) == null ? owner : called.group(1)) + "." + called.group(2);
+                if (!to.equals(method)) {
+                    calls.get(method).add(to);
+                }
+            }
+        }
+        return calls;
+    }
+
+    private static int depthOf(String method, Map<String, Set<String>> calls, int above) {
+        int deepest = 0;
+        // Methods that called one another would go on and on: more than there are methods is a circle.
+        for (String called : above > calls.size() ? Set.<String>of() : calls.get(method)) {
+            deepest = Math.max(deepest, depthOf(called, calls, above + 1));
+        }
+        return 1 + deepest;
+    }
+
+    private static void rule11Depth() throws IOException {
+        // It comes with javac, but nothing of the project needs it, so without it the rest is still tested.
+        Optional<ToolProvider> javap = ToolProvider.findFirst("javap");
+        if (javap.isEmpty()) {
+            System.out.println("LanguageTest: no javap here, how deep calls go is not looked at");
+            return;
+        }
+        Map<String, Set<String>> calls = callsOfMethods(javap.get());
+        check.due("methods whose calls were looked at: " + calls.size(), calls.size() > 100 ? 1 : 0, 1);
+        int deepest = 0;
+        for (String name : FACE) {
+            int depth = depthOf("ShapeFrames." + name, calls, 0);
+            check.due(name + " goes eight deep at most: " + depth, depth <= 8 ? 1 : 0, 1);
+            deepest = Math.max(deepest, depth);
+        }
+        // Reading a text alone goes deeper than this, so less means that calls were not found.
+        check.due("the deepest: " + deepest, deepest > 4 ? 1 : 0, 1);
     }
 
     /** All objects are a field's, made with it or in the constructor: so no call makes one. */
