@@ -1,6 +1,13 @@
+import java.io.IOException;
+import java.nio.file.Files;
+import java.nio.file.Path;
+
 /** What the tests share: comparing answers, and telling texts to a new object. */
 final class Check {
+    private static final Path DOCUMENT = Path.of("../shared/DOC.md");
     private final String name;
+    private String document = "";
+    private String sentence = "";
     private int asked = 0;
     private int wrong = 0;
 
@@ -12,8 +19,26 @@ final class Check {
         asked++;
         if (got != want) {
             wrong++;
-            System.out.println(name + ": " + call + " answered " + got + ", due is " + want);
+            String asks = sentence.isEmpty() ? "" : " (\"" + sentence + "\")";
+            System.out.println(name + ": " + call + " answered " + got + ", due is " + want + asks);
         }
+    }
+
+    /** What is tested from here on is asked for by these words, which must stand in the document. */
+    void says(String words) {
+        sentence = words;
+        due("the document has these words", document().contains(words) ? 1 : 0, 1);
+    }
+
+    private String document() {
+        if (document.isEmpty()) {
+            try {
+                document = Files.readString(DOCUMENT).replaceAll("\\s+", " ");
+            } catch (IOException e) {
+                System.out.println(name + ": " + DOCUMENT + " cannot be read");
+            }
+        }
+        return document;
     }
 
     /** Prints how it went and ends with exit code 1 if an answer was wrong. */
