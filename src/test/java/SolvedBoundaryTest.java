@@ -387,6 +387,17 @@ public final class SolvedBoundaryTest {
         for (int letter : unknown) {
             check.due("way(" + letter + ")", check.told("shape u v").way(letter), UNKNOWN);
         }
+        // The others stay what they are, by what is given or by what was met.
+        ShapeFrames x = check.told("shape u v w;form 0 6");
+        ways(x, 9, 1, 1, 6, NOT);
+        x.give(0, 2);
+        ways(x, 2, NOT, 1, 3, NOT);
+        x.give(0, 4);
+        ways(x, 0, NOT, NONE, NONE, NOT);
+        x.undo();
+        ways(x, 2, NOT, 1, 3, NOT);
+        ways(check.told("shape u v w;form 0 6;shape u;shape 2;each 2 3 0"), 2, NOT, 1, 3, NOT);
+        ways(check.told("shape v w x;form 0 6;shape x;shape 3;each 3 2 0"), 2, NOT, 1, 2, NOT);
         // Alike ones are open once: the others are not.
         ways(check.told("shape x v;shape w u;each 0 1 0"), 100, 0, NOT, 0, NOT);
     }

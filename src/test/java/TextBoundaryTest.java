@@ -19,6 +19,7 @@ public final class TextBoundaryTest {
         ranks();
         numbersOf1Or2Digits();
         blanksBetween();
+        wordsToTheLetter();
         firstTokenThatCannotStandThere();
         wordsOfMoreThanOneLetter();
         moreThanSixExtents();
@@ -308,6 +309,26 @@ public final class TextBoundaryTest {
         check.fault("", "shape {", 6);
         check.fault("", "shape /", 6);
         check.fault("", "shape :", 6);
+    }
+
+    private static void wordsToTheLetter() {
+        check.says("each is one of: program. shape E E E. each M N R. join M N R. turn M R. fold M R. ravel M R. form M E E E.");
+        String[] words = {"program", "shape", "each", "join", "turn", "fold", "ravel", "form"};
+        String[] rests = {"", "", " 0 0 0", " 0 0 0", " 0 0", " 0 0", " 0 0", " 0"};
+        for (int word = 0; word < words.length; word++) {
+            String whole = words[word];
+            check.fault("shape", whole + rests[word], NONE);
+            for (int i = 0; i < whole.length(); i++) {
+                String ahead = whole.substring(0, i);
+                String behind = whole.substring(i + 1);
+                char letter = whole.charAt(i);
+                check.fault("shape", ahead + (char) (letter + 1) + behind + rests[word], 0);
+                check.fault("shape", ahead + (char) (letter - 'a' + 'A') + behind + rests[word], 0);
+                check.fault("shape", ahead + letter + letter + behind + rests[word], 0);
+                check.fault("shape", ahead + behind + rests[word], 0);
+            }
+            check.fault("shape", whole + "a" + rests[word], 0);
+        }
     }
 
     private static void firstTokenThatCannotStandThere() {
