@@ -77,6 +77,7 @@ public final class SeenBoundaryTest {
 
     private static void kindsByAllThatIsSeen() {
         check.says("KINDS (bits 1 to 5) by which all that is SEEN would be so.");
+        check.says("KINDS, by bits.");
         check.due("kinds() of nothing seen", new ShapeFrames().kinds(), ALL);
         for (int n = 1; n <= 9; n++) {
             for (int m = 0; m <= 99; m++) {
@@ -93,6 +94,7 @@ public final class SeenBoundaryTest {
             }
             check.due("kinds(), the " + odd + "th being odd", x.kinds(), 0);
         }
+        check.says("a VERB of unknown KIND, at RANK 3, of one argument of one axis of n EXTENT (1 .. 9) (of two such, if it has two), gave a SHAPE");
         // By making them: the same shapes, of the nodes themselves.
         ShapeFrames x = check.told("shape 9;each 0 0 3;join 0 0 3;turn 0 3;fold 0 3;ravel 0 3");
         check.shape(x, 1, 9);
@@ -104,6 +106,7 @@ public final class SeenBoundaryTest {
 
     private static void askedBest() {
         check.says("ASK: n (1 .. 9) by which these are parted best (by the SHAPE): the greatest part that is alike is least; of like ones the least n; none (none parts them).");
+        check.says("ASK; NONE.");
         check.due("ask() of all", new ShapeFrames().ask(), 1);
         int[][] seen = {{5, 1, 5}, {5, 1, 10}, {5, 0, 0}, {5, 0, 5}, {5, 1, 7}};
         for (int[] one : seen) {

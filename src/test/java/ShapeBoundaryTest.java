@@ -20,11 +20,14 @@ public final class ShapeBoundaryTest {
         ranksPartOneShape();
         ranksPartTwoShapes();
         shapesOfNoneToSixExtents();
+        shapeAsTold();
         eachAgreesWhereBothHave();
         ofEqualLengthTheFirst();
         aCellWithoutExtentsIsOne();
+        joinFramesAndShape();
         behindTheirFirstExtents();
         turnFoldRavelForm();
+        nodesKinds();
         nodeAsked();
         extentAsked();
         kindsOverOneAnother();
@@ -81,6 +84,7 @@ public final class ShapeBoundaryTest {
     }
 
     private static void ranksPartOneShape() {
+        check.says("A RANK R (-3 .. 3) parts a SHAPE of n EXTENTS:");
         check.says("R 0 or more: its CELL is the last R of them (all, if n is less), its FRAME the others; R below 0: its FRAME is the first -R of them (all, if n is less), its CELL the others.");
         for (int n = 0; n <= 6; n++) {
             int last = LONG[n].split(";").length - 1;
@@ -168,7 +172,30 @@ public final class ShapeBoundaryTest {
         check.fails(x);
     }
 
+    private static void shapeAsTold() {
+        check.says("Of a NODE the SHAPE, and what must hold: SHAPE: as told.");
+        // Each extent that can be told, alone and at each of three axes.
+        String[] extents = {"0", "1", "2", "3", "4", "5", "6", "7", "8", "9", "u", "v", "w", "x"};
+        for (int one = 0; one < extents.length; one++) {
+            int value = one < 10 ? one : 20000 + one - 10;
+            check.shape(check.told("shape " + extents[one]), 0, value);
+            check.shape(check.told("shape 1 2 " + extents[one]), 0, 1, 2, value);
+            check.shape(check.told("shape 1 " + extents[one] + " 3"), 0, 1, value, 3);
+            ShapeFrames x = check.told("shape " + extents[one] + " 2 3");
+            check.shape(x, 0, value, 2, 3);
+            // By itself it must hold nothing.
+            check.fails(x);
+        }
+    }
+
     private static void eachAgreesWhereBothHave() {
+        check.says("EACH: FRAMES of both, CELLS of both (by R) must agree:");
+        // Alike in front, unlike behind: which of the two parts fails, and at which of its axes, is by rank.
+        String unlike = "shape 4 5 6;shape 4 5 7;each 0 1 ";
+        int[][] want = {{1, 2}, {2, 0}, {2, 1}, {1, 2}, {2, 0}, {2, 1}, {2, 2}};
+        for (int rank = -3; rank <= 3; rank++) {
+            check.fails(check.told(unlike + rankText(rank)), 2, want[rank + 3][0], want[rank + 3][1], 6, 7);
+        }
         check.says("where both have an EXTENT at an axis these are EQUAL");
         // The longer one's extents behind the shorter one's end meet nothing.
         check.fails(check.told("shape 2 3 4;shape 2;each 0 1 0"));
@@ -220,6 +247,29 @@ public final class ShapeBoundaryTest {
         check.fails(x);
     }
 
+    private static void joinFramesAndShape() {
+        check.says("JOIN: FRAMES as of EACH;");
+        check.fails(check.told("shape 1 2 3;shape 1 4 3;join 0 1 1"), 2, 1, 1, 2, 4);
+        check.fails(check.told("shape 1 2 3;shape 5 2 3;join 1 0 0"), 2, 1, 0, 5, 1);
+        check.fails(check.told("shape 1 2 3;shape 1 2 9;join 0 1 1"));
+        check.fails(check.told("shape 1 2 3;shape 9;join 0 1 1"));
+        check.fails(check.told("shape 1 2 3;shape 9;join 0 1 -1"), 2, 1, 0, 1, 9);
+        check.says("the SHAPE is the longer FRAME, a LETTER of its own, the longer one of what is behind the first EXTENTS;");
+        // Frames and cells of unlike lengths, either one the longer; the letters that stay open show what came from where.
+        ShapeFrames x = check.told("shape u v w;shape x;join 0 1 1;join 1 0 1;join 0 1 3;join 1 0 3;join 0 1 -1;join 1 0 -1");
+        check.shape(x, 2, 20000, 20001, 20006);
+        check.shape(x, 3, 20000, 20001, 20007);
+        check.shape(x, 4, 20008, 20001, 20002);
+        check.shape(x, 5, 20009, 20001, 20002);
+        // By -1 x is a frame, so that it is alike u.
+        check.shape(x, 6, 20000, 20010, 20002);
+        check.shape(x, 7, 20000, 20011, 20002);
+        check.due("letter(3)", x.letter(3), 20000);
+        // The letter of its own is 4 and the node's number.
+        check.due("letter(6)", x.letter(6), 20006);
+        check.due("letter(11)", x.letter(11), 20011);
+    }
+
     private static void behindTheirFirstExtents() {
         check.says("behind their first EXTENTS the CELLS agree as of EACH");
         check.fails(check.told("shape 1 5;shape 2 5;join 0 1 2"));
@@ -249,6 +299,15 @@ public final class ShapeBoundaryTest {
         check.shape(x, 6, 4);
         check.shape(x, 8, 4);
         check.shape(x, 9, 4, 5);
+        check.says("RAVEL: FRAME, then a LETTER of its own;");
+        x = check.told("shape u v w;ravel 0 0;ravel 0 1;ravel 0 2;ravel 0 3;ravel 0 -1;ravel 0 -2;ravel 0 -3");
+        check.shape(x, 1, 20000, 20001, 20002, 1);
+        check.shape(x, 2, 20000, 20001, 20006);
+        check.shape(x, 3, 20000, 20007);
+        check.shape(x, 4, 20008);
+        check.shape(x, 5, 20000, 20009);
+        check.shape(x, 6, 20000, 20001, 20010);
+        check.shape(x, 7, 20000, 20001, 20002, 1);
         check.says("that is the PRODUCT of all EXTENTS of the CELL (1 without any)");
         x = check.told("shape;ravel 0 0;ravel 0 3;shape 0 9 9;ravel 3 0;ravel 3 -3;ravel 3 1;ravel 3 2;ravel 3 3;ravel 3 -1");
         check.shape(x, 1, 1);
@@ -270,6 +329,14 @@ public final class ShapeBoundaryTest {
         check.fails(check.told("shape 2;form 0"), 1, 4, 0, 0, 0);
         check.fails(check.told("shape 0;form 0"), 1, 4, 0, 0, 0);
         check.fails(check.told("shape 9 9 8;form 0 8 9 8"), 1, 4, 0, 0, 0);
+    }
+
+    private static void nodesKinds() {
+        check.says("each of a KIND: 0 SHAPE, 1 EACH, 2 JOIN, 3 TURN, 4 FOLD, 5 RAVEL, 6 FORM.");
+        ShapeFrames x = check.told("shape 1;each 0 0 0;join 0 0 0;turn 0 0;fold 0 0;ravel 0 0;form 0 1");
+        for (int kind = 0; kind <= 6; kind++) {
+            check.due("node(" + kind + ", 0)", x.node(kind, 0), kind);
+        }
     }
 
     private static void nodeAsked() {
@@ -298,6 +365,7 @@ public final class ShapeBoundaryTest {
     }
 
     private static void extentAsked() {
+        check.says("The EXTENT at an axis of a NODE's SHAPE, SOLVED");
         check.says("a number; or 20000 and the least LETTER that it is ALIKE. UNKNOWN; OUTSIDE: there is no such axis.");
         ShapeFrames x = check.told("shape 0 9 x;shape;ravel 0 2;turn 0 0;turn 0 0;turn 0 0;turn 0 0;turn 0 0;turn 0 0;ravel 0 3");
         check.shape(x, 0, 0, 9, 20003);

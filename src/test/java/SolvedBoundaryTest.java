@@ -18,6 +18,7 @@ public final class SolvedBoundaryTest {
         eachLetterByItself();
         framesThenCells();
         whatIsMet();
+        nodeByNode();
         roundsAgainAndAgain();
         noLetterOneLetterElse();
         sumBelowNought();
@@ -56,7 +57,7 @@ public final class SolvedBoundaryTest {
     }
 
     private static void eachLetterByItself() {
-        check.says("at first each LETTER is by itself, a GIVEN one is that number");
+        check.says("SOLVED: at first each LETTER is by itself, a GIVEN one is that number");
         ShapeFrames x = check.told("shape u u v");
         letters(x, 20000, 20001, 20002, 20003);
         x.give(0, 0);
@@ -98,6 +99,18 @@ public final class SolvedBoundaryTest {
         letters(check.told("shape u v;each 0 0 0;shape v u;each 0 2 0;each 0 2 0"), 20000, 20000, 20002, 20003);
     }
 
+    private static void nodeByNode() {
+        check.says("Then SUMS and PRODUCTS, NODE by NODE,");
+        // Of two that would fail, the lesser node does, whichever is the sum.
+        check.fails(check.told("shape 2;join 0 0 1;shape 5;each 1 2 0;form 0 3"), 1, 3, 0, 0, 0);
+        check.fails(check.told("shape 2;form 0 3;join 0 0 1;shape 5;each 2 3 0"), 1, 4, 0, 0, 0);
+        check.fails(check.told("shape 2;ravel 0 1;shape 5;each 1 2 0;join 0 0 1;each 4 2 0"), 1, 4, 0, 0, 0);
+        // What the lesser node finds is a number for the greater one in the same round: the greater one fails, not the lesser.
+        check.fails(check.told("shape 2;form 0 u;shape u;form 2 3"), 3, 4, 0, 0, 0);
+        check.fails(check.told("shape u;form 0 3;shape 2;form 2 u"), 3, 4, 0, 0, 0);
+        check.fails(check.told("shape u;shape 1;join 0 1 1;shape 4;each 2 3 0;form 0 2"), 5, 4, 0, 0, 0);
+    }
+
     private static void roundsAgainAndAgain() {
         check.says("again and again as long as in a round through all of them one LETTER more became a number");
         // Each needs what the one behind it finds: a round for each.
@@ -121,7 +134,7 @@ public final class SolvedBoundaryTest {
     }
 
     private static void noLetterOneLetterElse() {
-        check.says("if no LETTER in it is without a number, both sides are MET; if one LETTER is without a number, and is in it just once (ALIKE ones count as the same), it becomes the number by which it holds; else nothing.");
+        check.says("Of one of them: if no LETTER in it is without a number, both sides are MET; if one LETTER is without a number, and is in it just once (ALIKE ones count as the same), it becomes the number by which it holds; else nothing.");
         check.fails(check.told("shape 2 3;form 0 6;form 0 1 6"));
         check.fails(check.told("shape 2 3;form 0 5"), 1, 4, 0, 0, 0);
         letters(check.told("shape u 3;form 0 6"), 2, 20001, 20002, 20003);
@@ -288,6 +301,12 @@ public final class SolvedBoundaryTest {
     }
 
     private static void howFailingIsTold() {
+        check.says("By KIND of FAILING: 1 FRAMES, 2 CELLS, 3 a SUM, 4 a PRODUCT;");
+        check.due("fails(1) of frames", check.told("shape 1;shape 2;each 0 1 0").fails(1), 1);
+        check.due("fails(1) of cells", check.told("shape 1;shape 2;each 0 1 1").fails(1), 2);
+        check.due("fails(1) of a sum", check.told("shape 1;join 0 0 1;each 0 1 1").fails(1), 3);
+        check.due("fails(1) of a ravel's product", check.told("shape 1 2;ravel 0 2;each 0 1 2").fails(1), 4);
+        check.due("fails(1) of a form's product", check.told("shape 1;form 0 2").fails(1), 4);
         check.says("for 1, 2 the axis (from 0 on, of FRAMES, of CELLS; of a JOIN's CELLS from 1 on) and both numbers");
         check.fails(check.told("shape 0;shape 9;each 0 1 0"), 2, 1, 0, 0, 9);
         check.fails(check.told("shape 0;shape 9;each 1 0 1"), 2, 2, 0, 9, 0);
@@ -334,6 +353,7 @@ public final class SolvedBoundaryTest {
 
     private static void openLetters() {
         check.says("OPEN: LETTERS 0 .. 3 that are in some NODE told as SHAPE or FORM, and are no numbers, SOLVED, each of those that are ALIKE once (the least).");
+        check.says("OPEN LETTERS (bits).");
         check.due("open() of none", new ShapeFrames().open(), 0);
         check.due("open() of no letters", check.told("shape 1 2 3").open(), 0);
         for (int letter = 0; letter < 4; letter++) {
@@ -366,6 +386,7 @@ public final class SolvedBoundaryTest {
     private static void waysOfOpenOnes() {
         check.says("WAYS: in how many ways these can be GIVEN numbers 0 .. 9 so that nothing FAILS; the first way (the least number for the least LETTER first)");
         check.says("The first way: the number of an OPEN LETTER; NONE: there is no way. UNKNOWN; NOT: it is not OPEN.");
+        check.says("`int ways()`: WAYS.");
         ways(new ShapeFrames(), 1, NOT, NOT, NOT, NOT);
         ways(check.told("shape 4"), 1, NOT, NOT, NOT, NOT);
         ways(check.told("shape u"), 10, 0, NOT, NOT, NOT);
@@ -434,6 +455,7 @@ public final class SolvedBoundaryTest {
     private static void oddsInLowestTerms() {
         check.says("ODDS: of these, each number 0 .. 9 being as likely for each, that nothing FAILS.");
         check.says("Parts are told in lowest terms: above (part 0), below (1).");
+        check.says("ODDS. OUTSIDE.");
         odds(new ShapeFrames(), 1, 1);
         odds(check.told("shape u"), 1, 1);
         odds(check.told("shape u v w;shape x"), 1, 1);
@@ -471,6 +493,7 @@ public final class SolvedBoundaryTest {
         check.due("mend()", check.told("shape 0;form 0 7").mend(), 7);
         check.due("mend()", check.told("shape 0 0;form 0 7").mend(), 100);
         check.due("mend()", check.told("shape 5;shape 1;shape 2;each 1 2 0").mend(), 102);
+        check.says("MEND; NONE.");
         check.due("mend() of nothing", new ShapeFrames().mend(), NONE);
         check.due("mend(), nothing failing", check.told("shape 1;form 0 1").mend(), NONE);
         check.due("mend(), nothing failing, letters open", check.told("shape u u;form 0 5").mend(), NONE);

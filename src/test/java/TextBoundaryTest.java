@@ -329,6 +329,14 @@ public final class TextBoundaryTest {
             }
             check.fault("shape", whole + "a" + rests[word], 0);
         }
+        check.says("(As written here, without points;");
+        for (int word = 0; word < words.length; word++) {
+            String clause = words[word] + rests[word];
+            check.fault("shape", clause + ".", clause.length());
+            check.fault("shape", clause + " .", clause.length() + 1);
+            check.fault("shape", clause + ";.", clause.length() + 1);
+            check.fault("shape", "." + clause, 0);
+        }
     }
 
     private static void firstTokenThatCannotStandThere() {
